@@ -16,6 +16,8 @@ public final class SprinklerHouse {
     private static final int LEAST_SIDE = 2, MOST_SIDE = 16, MOST_REACH = 12, MOST_NEAR = 30;
     private static final int OPEN_CELL = 0, WALL = 1, NOTHING = 2;
     private static final long UNIT = 1024;
+    /** Above every price, DRAG and spare flow there can be. */
+    private static final int BEYOND = 2000000000;
 
     private final Net net;
     private final Widths widths;
@@ -26,10 +28,13 @@ public final class SprinklerHouse {
     private int heaps;
 
     public SprinklerHouse() {
-        net = new Net();
-        widths = new Widths(net);
-        members = new int[MOST_HEAPS];
-        chooser = new Chooser(net, widths, members);
+        Net pipesAndHeads = new Net();
+        Widths rows = new Widths(pipesAndHeads);
+        int[] headsOfHeaps = new int[MOST_HEAPS];
+        net = pipesAndHeads;
+        widths = rows;
+        members = headsOfHeaps;
+        chooser = new Chooser(pipesAndHeads, rows, headsOfHeaps);
         plan = new Plan();
     }
 
@@ -436,21 +441,20 @@ public final class SprinklerHouse {
         return is ? bits | 1 << i : bits & ~(1 << i);
     }
 
-    /** Whole roots and quotients of numbers that are 0 or more. */
+    /** Roots and quotients of numbers that are 0 or more, cut down or, if told so, up. */
     private static final class Whole {
         private Whole() {
         }
 
-        static long cut(long n, long by) {
-            return by < 1 ? 0 : n / by;
+        static long quotient(long n, long by, boolean up) {
+            if (by < 1) {
+                return 0;
+            }
+            return up ? (n + by - 1) / by : n / by;
         }
 
-        static long cutUp(long n, long by) {
-            return by < 1 ? 0 : (n + by - 1) / by;
-        }
-
-        /** Newton's steps from above the root fall until they reach it. */
-        static long root(long n) {
+        /** Newton's steps, begun above the root, fall until they reach it. */
+        static long root(long n, boolean up) {
             if (n < 1) {
                 return 0;
             }
@@ -458,16 +462,11 @@ public final class SprinklerHouse {
             for (int i = 0; i < 64 && x > 0; i++) {
                 long next = (x + n / x) / 2;
                 if (next >= x) {
-                    return x;
+                    break;
                 }
                 x = next;
             }
-            return x;
-        }
-
-        static long rootUp(long n) {
-            long x = root(n);
-            return x * x < n ? x + 1 : x;
+            return up && x * x < n ? x + 1 : x;
         }
     }
 
@@ -600,10 +599,7 @@ public final class SprinklerHouse {
                 return 0;
             }
             long d = (1L << 50) + drags[end] * atEnd * atEnd;
-            if (side == LOW) {
-                return Whole.cut(atEnd << 25, Whole.rootUp(d));
-            }
-            return Whole.cutUp(atEnd << 25, Whole.root(d));
+            return Whole.quotient(atEnd << 25, Whole.root(d, side == LOW), side == HIGH);
         }
 
         void fall(int side, int[] drags, int pressure) {
@@ -617,11 +613,8 @@ public final class SprinklerHouse {
             if (isClosed(end)) {
                 return 0;
             }
-            long loss = drags[end] * g[end] * g[end];
-            if (side == LOW) {
-                return Whole.cut(before << 30, (1L << 30) + Whole.cutUp(loss, 1L << 20));
-            }
-            return Whole.cutUp(before << 30, (1L << 30) + Whole.cut(loss, 1L << 20));
+            long e = (1L << 30) + Whole.quotient(drags[end] * g[end] * g[end], 1L << 20, side == LOW);
+            return Whole.quotient(before << 30, e, side == HIGH);
         }
 
         private boolean isClosed(int end) {
@@ -630,8 +623,7 @@ public final class SprinklerHouse {
 
         /** Of a HEAD that is OPEN. */
         long flowOf(int pipe, int side) {
-            long square = p[pipe + 1] * UNIT;
-            return net.factorNow(pipe) * (side == LOW ? Whole.root(square) : Whole.rootUp(square));
+            return net.factorNow(pipe) * Whole.root(p[pipe + 1] * UNIT, side == HIGH);
         }
 
         /** What LOW Q is above the NEED of a HEAD that is OPEN. */
@@ -643,7 +635,7 @@ public final class SprinklerHouse {
             if (heads == 0) {
                 return 0;
             }
-            long least = Long.MAX_VALUE;
+            long least = BEYOND;
             for (int pipe = 0; pipe < net.pipes; pipe++) {
                 if (bit(heads, pipe) == 1) {
                     least = Math.min(least, spareOf(pipe));
@@ -687,10 +679,10 @@ public final class SprinklerHouse {
         boolean chooseSizes(int heapsNow) {
             heaps = heapsNow;
             failed = 0;
-            bestPrice = Integer.MAX_VALUE;
+            bestPrice = BEYOND;
             listFreePipes();
             search(this, 0, 0);
-            if (bestPrice == Integer.MAX_VALUE) {
+            if (bestPrice == BEYOND) {
                 return false;
             }
             for (int k = 0; k < count; k++) {
@@ -717,7 +709,7 @@ public final class SprinklerHouse {
         }
 
         private int leastPrice(int pipe) {
-            int least = Integer.MAX_VALUE;
+            int least = BEYOND;
             for (int size = 0; size < net.sizes; size++) {
                 least = Math.min(least, net.priceWith(pipe, size));
             }
@@ -754,7 +746,7 @@ public final class SprinklerHouse {
         }
 
         private void widen(int k) {
-            int least = Integer.MAX_VALUE;
+            int least = BEYOND;
             int most = 0;
             for (int size = 0; size < net.sizes; size++) {
                 int drag = net.dragWith(pipes[k], size);
