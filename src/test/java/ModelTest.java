@@ -471,6 +471,10 @@ public final class ModelTest {
     for (int i = 0; i < 8; i++) run.call(18, random.nextInt(pipes), 0, 0, 0, true);
     if (random.nextInt(4) == 0) run.call(5, random.nextInt(pipes), 0, 0, 0, true);
     setNeeds(run, random);
+    for (TreeSet<Integer> heap : run.model.heaps) {
+      for (int i = 0; i < pipes; i++) run.call(4, i, 0, 0, 0, heap.contains(i));
+      run.call(13, 0, 0, 0, 0, false);
+    }
     for (int i = 0; i < pipes; i++) if (random.nextBoolean()) run.call(7, i, random.nextInt(sizes), 0, 0, false);
     for (int i = 0; i < 3; i++) {
       run.call(19, 0, 0, 0, 0, false);
