@@ -18,8 +18,12 @@ public final class LanguageTest {
       + "int put(int,int,boolean);long least(int);int thinnest();int free(int,boolean);long choose();long bill();"
       + "int margin(int);int floor(int,int);int cell(int,int,int);int stand(int,int,int,int);int lift(int);"
       + "int wets(int,int,int);int dry(int);int near(int);int told(int)";
-  private static final Set<String> LIBRARY = Set.of("Arrays.fill", "Integer.bitCount", "Long.numberOfLeadingZeros",
-      "Math.abs", "Math.max", "Math.min", "System.arraycopy", "Whole.quotient", "Whole.root");
+  private static final Set<String> LIBRARY = Set.of("Arrays.fill", "Arrays.copyOf", "Arrays.copyOfRange", "List.of",
+      "System.arraycopy");
+  private static final Set<String> IMPORTS = Set.of("java.util.Arrays", "java.util.ArrayList", "java.util.List",
+      "java.util.Iterator");
+  private static final Set<Class<?>> CONSTANTS = Set.of(int.class, long.class, boolean.class, char.class, String.class,
+      int[].class, long[].class, char[].class, byte[].class);
   private static int wrong = 0;
 
   private static void must(boolean holds, String rule) {
@@ -60,7 +64,7 @@ public final class LanguageTest {
     int fields = 0;
     for (Field f : c.getDeclaredFields()) {
       if (!Modifier.isStatic(f.getModifiers())) fields++;
-      else must(Modifier.isFinal(f.getModifiers()) && f.getType().isPrimitive(), f + " a constant");
+      else must(Modifier.isFinal(f.getModifiers()) && isConstant(f.getType()), f + " a constant");
     }
     must(fields <= 20, c + " at most twenty fields");
     for (Method m : c.getDeclaredMethods()) {
@@ -69,18 +73,31 @@ public final class LanguageTest {
     }
   }
 
+  private static boolean isConstant(Class<?> type) {
+    return CONSTANTS.contains(type) || type.isEnum() || type.isArray() && type.getComponentType().isEnum();
+  }
+
+  /** Math, Integer and Long are allowed but for what ends in Exact or is no function of the arguments alone. */
+  private static boolean isAllowed(String call) {
+    String owner = call.substring(0, call.indexOf('.'));
+    for (Class<?> c : SprinklerHouse.class.getDeclaredClasses()) if (c.getSimpleName().equals(owner)) return true;
+    return LIBRARY.contains(call) || Set.of("Math", "Integer", "Long").contains(owner) && !call.equals("Math.random");
+  }
+
   private static void text() throws Exception {
     String text = Files.readString(Path.of("src/main/java/SprinklerHouse.java"));
     String code = text.replaceAll("(?s)/\\*.*?\\*/", "").replaceAll("//[^\n]*", "");
-    String[] words = {"throw", "throws", "try", "catch", "finally", "synchronized", "assert", "instanceof", "var",
-        "yield", "record", "double", "float", "package", "interface", "enum", "volatile", "transient", "native"};
+    String[] words = {"package", "throw", "throws", "try", "catch", "finally", "synchronized", "assert", "protected",
+        "volatile", "native", "hashCode", "NaN"};
     for (String word : words) must(!Pattern.compile("\\b" + word + "\\b").matcher(code).find(), "no word " + word);
-    for (String sign : new String[] {"->", "::", "\"", "@", "Exact"}) must(!code.contains(sign), "no sign " + sign);
-    Matcher calls = Pattern.compile("\\b[A-Z]\\w*\\.\\w+").matcher(code.replaceAll("import [^\n]*", ""));
-    while (calls.find()) must(LIBRARY.contains(calls.group()), calls.group() + " a call that the rules allow");
+    for (String sign : new String[] {"::", "Exact("}) must(!code.contains(sign), "no sign " + sign);
+    must(!Pattern.compile("(?m)^(?!\\s*(case|default)\\b).*->").matcher(code).find(), "no lambda");
+    must(!Pattern.compile("\\bstatic\\s*\\{").matcher(code).find(), "no static block");
+    Matcher calls = Pattern.compile("\\b[A-Z]\\w*[a-z]\\w*\\.\\w+").matcher(code.replaceAll("import [^\n]*", ""));
+    while (calls.find()) must(isAllowed(calls.group()), calls.group() + " a call that the rules allow");
     must(text.chars().allMatch(c -> c < 256), "characters 0 to 255");
     Matcher imports = Pattern.compile("import ([^;]*);").matcher(code);
-    while (imports.find()) must(imports.group(1).equals("java.util.Arrays"), imports.group(1) + " an import");
+    while (imports.find()) must(IMPORTS.contains(imports.group(1)), imports.group(1) + " an import");
   }
 
   public static void main(String[] args) throws Exception {
