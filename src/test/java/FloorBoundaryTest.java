@@ -182,6 +182,8 @@ public final class FloorBoundaryTest {
     run("size(1, 1) = 0 1; pipe(-1, 1, 0) = 0..8; head(0..6, 9, 0) = 1; open(0..5, true) = 0; heap() = 0..2;"
         + "free(0..3, true) = 1..4; stand(0, 0, 0, 1); cell(0, 1, 1); cell(1, 1, 2);"
         + "told(0..9) = 2 9 7 6 3 4 1 2 2 2");
+    sentence("Promise 31", "3 OPEN ones (SHUT, CLOGGED or not); 7 open cells (a HEAD STANDS there or not)");
+    run(TWO + "open(0..1, true) = 0; shut(0, true); clog(1, 100); told(3) = 2; stand(0, 0, 0, 1); told(7) = 4");
     sentence("Promise 31", "OUTSIDE");
     run("told(-1) = OUTSIDE; told(10) = OUTSIDE; told(MIN) = OUTSIDE; told(MAX) = OUTSIDE");
   }

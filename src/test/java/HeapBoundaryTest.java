@@ -57,10 +57,13 @@ public final class HeapBoundaryTest {
     go(house, "told(3) = 0; about(0, 7) = 0; open(1, true); least(0) = 6041600; told(3) = 1; about(0..1, 7) = 0 1;"
         + "flow(0, 0) = 0; flow(1, 0) = 6041600");
     go(house, "margin(0) = NONE; thinnest() = 0; choose() = 2; told(3) = 1; about(0..1, 7) = 0 1");
+    sentence("2 HEAPS", "its HEADS alone are OPEN for the while (with another one it would not be MET)");
+    String alone = "supply(1000, 4000); size(1, 1); pipe(-1, 1, 0) = 0 1; head(0, 200, 5900); head(1, 200, 0); heap();";
+    run(alone + "put(0, 0, true); open(1, true); least(0) = 0; margin(0) = 1; free(0, true); choose() = 2;"
+        + "put(0, 1, true) = 2; choose() = NO; margin(0) = NO; put(0, 1, false); choose() = 2; about(0..1, 7) = 0 1");
     sentence("Promise 18", "UNKNOWN: LOST less 1");
     run("heap(); least(1) = -1000000000001; least(-1) = -1000000000001; least(6) = -1000000000001;"
         + "least(MIN) = -1000000000001; least(MAX) = -1000000000001");
-    LEDGER.due("LOST", SprinklerHouse.LOST, -1000000000000L);
   }
 
   private static void thinnest() {

@@ -28,6 +28,14 @@ public final class RefusalTest {
   private static void sentence(String words) { LEDGER.sentence("Terms", words); }
   private static void first(String house, String calls) { LEDGER.go(LEDGER.run(house), calls); }
 
+  private static void constants() {
+    sentence("The constants: UNKNOWN = -1, OUTSIDE = -2, STATE = -3, FULL = -4, NO = -5, NONE = -6; LOST");
+    int[] all = {SprinklerHouse.UNKNOWN, SprinklerHouse.OUTSIDE, SprinklerHouse.STATE, SprinklerHouse.FULL,
+        SprinklerHouse.NO, SprinklerHouse.NONE};
+    for (int i = 0; i < all.length; i++) LEDGER.due("constant " + i, all[i], -1 - i);
+    LEDGER.due("LOST", SprinklerHouse.LOST, -1000000000000L);
+  }
+
   private static void firstOfTwo() {
     sentence("the first of these that fits: UNKNOWN, then OUTSIDE");
     first(SOME, "pipe(6, 0, 0) = UNKNOWN; pipe(-2, 11, 0) = UNKNOWN; pipe(0, 0, 3) = UNKNOWN;"
@@ -166,6 +174,7 @@ public final class RefusalTest {
   }
 
   public static void main(String[] args) {
+    constants();
     firstOfTwo();
     changeNothing();
     LEDGER.end();

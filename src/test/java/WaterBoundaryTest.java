@@ -374,6 +374,9 @@ public final class WaterBoundaryTest {
     run("supply(8, 0); size(1, 1); size(288, 1); size(20, 1); pipe(-1, 1, 0..2) = 0..2; head(0, 64, 181);"
         + "head(1, 193, 543); head(2, 81, 229);"
         + "open(0..2, true) = 0; worst() = 2; open(2, false); worst() = 0; open(0, false); worst() = 1");
+    sentence("Promise 15", "of all that are OPEN (one whose FACTOR is 0, one behind a SHUT PIPE)");
+    run("size(1, 1); pipe(-1, 1, 0) = 0..2; head(0..2, 9, 0) = 1; open(0..2, true) = 0; clog(1, 100); worst() = 1;"
+        + "shut(0, true); worst() = 0; open(0..1, false) = 1; worst() = 2; clog(2, 100); worst() = 2; told(3) = 1");
     sentence("Promise 15", "the first such");
     run("size(1, 1); pipe(-1, 1, 0) = 0..23; head(0..23, 9, 9) = 1; open(3..23, true) = 0; worst() = 3;"
         + "open(23, false) = 1; open(3, false) = 1;"
