@@ -257,7 +257,9 @@ public final class SprinklerHouse {
     }
 
     public long choose() {
-        return chooser.chooseSizes(heaps) ? net.priceOfAll() : NO;
+        chooser.begin(heaps);
+        Chooser.search(chooser, 0, 0);
+        return chooser.settle() ? net.priceOfAll() : NO;
     }
 
     public long bill() {
@@ -676,12 +678,15 @@ public final class SprinklerHouse {
             mostDrags = new int[MOST_ENDS];
         }
 
-        boolean chooseSizes(int heapsNow) {
+        void begin(int heapsNow) {
             heaps = heapsNow;
             failed = 0;
             bestPrice = BEYOND;
             listFreePipes();
-            search(this, 0, 0);
+        }
+
+        /** Gives the FREE PIPES the SIZES that the search has found; false, if it has found none. */
+        boolean settle() {
             if (bestPrice == BEYOND) {
                 return false;
             }

@@ -12,7 +12,8 @@ import java.util.regex.Pattern;
 
 /** The face of the document, and those rules of LANGUAGE.md that can be seen in the text or in the class. */
 public final class LanguageTest {
-  private static final String FACE = "int supply(int,int);int size(int,int);int pipe(int,int,int);int head(int,int,int);"
+  private static final String FACE =
+      "int supply(int,int);int size(int,int);int pipe(int,int,int);int head(int,int,int);"
       + "int open(int,boolean);int shut(int,boolean);int clog(int,int);int resize(int,int);long conduct(int,int);"
       + "long pressure(int,int);long flow(int,int);long total(int);int about(int,int);int worst();int heap();"
       + "int put(int,int,boolean);long least(int);int thinnest();int free(int,boolean);long choose();long bill();"

@@ -538,7 +538,8 @@ public final class ModelTest {
       run.call(24, i, random.nextInt(rows), random.nextInt(columns), 1 + random.nextInt(12), false);
     if (seed % 2 == 0) run.ask(3);
     run.ask(2);
-    while (!run.isUsedUp()) run.call(26, random.nextInt(pipes), random.nextInt(rows), random.nextInt(columns), 0, false);
+    while (!run.isUsedUp())
+      run.call(26, random.nextInt(pipes), random.nextInt(rows), random.nextInt(columns), 0, false);
   }
 
   public static void main(String[] args) {

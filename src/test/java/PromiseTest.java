@@ -75,7 +75,8 @@ public final class PromiseTest {
     SprinklerHouse x = new SprinklerHouse();
     due(4, "pipe(-1, 1, 0): no SIZE", x.pipe(-1, 1, 0), UNKNOWN);
     x.size(5, 5); x.size(6, 6);
-    int[][] unknown = {{-2, 1, 0}, {0, 1, 0}, {-1, 1, 2}, {-1, 1, -1}, {-1, 0, 2}, {LEAST, 1, 0}, {MOST, 1, 0}, {-1, 1, MOST}};
+    int[][] unknown = {{-2, 1, 0}, {0, 1, 0}, {-1, 1, 2}, {-1, 1, -1}, {-1, 0, 2}, {LEAST, 1, 0}, {MOST, 1, 0},
+        {-1, 1, MOST}};
     for (int[] u : unknown) due(4, "pipe(" + u[0] + ", " + u[1] + ", " + u[2] + ")", x.pipe(u[0], u[1], u[2]), UNKNOWN);
     due(4, "pipe(-1, 0, 0)", x.pipe(-1, 0, 0), OUTSIDE);
     due(4, "pipe(-1, 11, 0)", x.pipe(-1, 11, 0), OUTSIDE);
